@@ -265,6 +265,10 @@ final class PromiseTest {
         faultOf("guess 0,guess 1", 7);
         faultOf("guessearly 0", 0);
         faultOf("x guess 0", 0);
+        faultOf("xuess 0", 0);
+        faultOf("zlient 1 1", 0);
+        faultOf("guessz 0", 0);
+        faultOf("guessa 0", 0);
         faultOf("guess 0;x", 8);
         faultOf("\u00e9", 0);
     }
@@ -462,6 +466,16 @@ final class PromiseTest {
         x.hello();
         due("a guess that is not of the groups", x.message(S, 3), 1);
         due("the guess stays", x.guess(3), 2);
+        int[][] rows = {{1, 1, 0}, {1, 5, 0}, {0, 6, 1}, {0, 12, 2}, {0, 8, 3}, {3, 15, 3}, {3, 8, 3}};
+        for (int[] row : rows) {
+            x.fresh(C);
+            x.drop(S);
+            x.guess(row[0]);
+            x.offer(C, 7, row[1]);
+            x.hello();
+            due("guess " + row[0] + " of groups " + row[1], x.message(S, 3), row[2]);
+            due("its share", x.message(S, 4), Model.share(row[2], 3));
+        }
     }
 
     private static void early() {
@@ -1005,6 +1019,18 @@ final class PromiseTest {
         due("the life is over", x.side(C, 5), 0);
         due("key", x.side(C, 6), mix(7, Model.common(3, 28, 4), 0));
 
+        ToyGreeting late = joined();
+        late.pass(50);
+        late.ticket(6);
+        late.step(C);
+        late.early(20);
+        late.pass(6);
+        greet(late);
+        due("the life begins when the ticket is made", late.side(S, 5), 1);
+        due("and so does its age", late.count(5), 1);
+        late.pass(1);
+        greet(late);
+        due("the life is over", late.side(S, 5), 0);
         ToyGreeting y = withTicket(0);
         greet(y);
         due("a life of 0 at once", y.side(S, 5), 1);
@@ -1182,6 +1208,7 @@ final class PromiseTest {
         replayed(x, 2, 6);
         replayed(x, 1, 7);
         due("told", x.count(6), 70);
+        seenOfTickets();
         ToyGreeting y = withTicket(99);
         y.early(10);
         again(y);
@@ -1195,6 +1222,37 @@ final class PromiseTest {
         y.hello();
         y.step(S);
         due("the same binder of the same ticket", y.message(C, 6), 0);
+    }
+
+    /** The number of a ticket goes with its binder when the oldest goes: the fifth is another ticket's. */
+    private static void seenOfTickets() {
+        ToyGreeting x = withTicket(99);
+        x.early(10);
+        for (int i = 0; i < 4; i++) {
+            x.secret(C, 100 + i);
+            again(x);
+            x.step(S);
+            if (i < 3) {
+                x.drop(C);
+            }
+        }
+        due("taken", x.count(5), 4);
+        x.step(C);
+        x.step(S);
+        x.ticket(99);
+        x.step(C);
+        for (int i = 0; i < 4; i++) {
+            x.secret(C, 200 + i);
+            again(x);
+            x.copy(S, i);
+            x.step(S);
+            x.drop(C);
+            due("taken of ticket 2", x.count(5), 5 + i);
+        }
+        for (int i = 0; i < 4; i++) {
+            replayed(x, i, 8);
+        }
+        due("seen", x.count(4), 4);
     }
 
     private static void replayed(ToyGreeting x, int place, int due) {
@@ -1597,6 +1655,16 @@ final class PromiseTest {
         due("the other way's stays", x.count(1), 1);
         due("nothing came", x.side(S, 11), 0);
         due("these are not counted", x.count(12), 0);
+        java.util.ArrayDeque<Integer> sealed = new java.util.ArrayDeque<>();
+        for (int i = 0; i < 40; i++) {
+            for (int j = i % 5; j < 4 && sealed.size() < 8; j++) {
+                sealed.add(x.say(C, 17 * i % 1000));
+            }
+            if (!sealed.isEmpty()) {
+                due("the first of those that were sent", x.message(S, 1), sealed.remove());
+                due("drop", x.drop(S), sealed.size());
+            }
+        }
     }
 
     private static void copy() {

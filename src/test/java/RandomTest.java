@@ -11,6 +11,11 @@ final class RandomTest {
         "hello", "step", "ticket", "forget", "say", "update", "fresh", "pass", "alter", "drop", "copy", "inject",
         "side", "message", "kept", "held", "share", "count"};
 
+    /** How often a run's call found each side failed by each reason, so that the runs do reach them all. */
+    private static final int[][] FOUND = new int[2][10];
+    private static final int[][] REASONS = {{1, 2, 4, 5, 6, 7, 8, 9}, {1, 2, 3, 4, 5, 6, 8, 9}};
+    private static int most = 0;
+
     private final ToyGreeting x = new ToyGreeting();
     private final Model model = new Model();
     private final Random random;
@@ -32,6 +37,18 @@ final class RandomTest {
                 System.out.println("RandomTest, seed " + seed + ":");
                 test.log.subList(Math.max(0, last - 40), last).forEach(System.out::println);
             }
+        }
+        for (int side = 0; side < 2 && failed == 0; side++) {
+            for (int reason : REASONS[side]) {
+                if (FOUND[side][reason] < 100) {
+                    System.out.println("RandomTest: side " + side + " hardly ever failed by " + reason);
+                    failed++;
+                }
+            }
+        }
+        if (failed == 0 && most < 6) {
+            System.out.println("RandomTest: the runs took hardly any early letters");
+            failed++;
         }
         System.out.println("RandomTest: " + (failed == 0 ? RUNS + " runs as the model" : "answers off"));
         if (failed != 0) {
@@ -86,6 +103,9 @@ final class RandomTest {
         }
         log.add(name + java.util.Arrays.toString(given) + " answered " + got + (got == due ? "" : ", due is " + due));
         wrong = got != due;
+        FOUND[0][model.half[0].reason]++;
+        FOUND[1][model.half[1].reason]++;
+        most = Math.max(most, model.earlyCount);
     }
 
     private void run() {
