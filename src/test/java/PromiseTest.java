@@ -1,22 +1,5 @@
 /** For each promise of the document: ordinary inputs, the edges that it names, and wrong inputs. */
-final class PromiseTest {
-    private static final int NONE = -1, UNKNOWN = -2, OUTSIDE = -3, NOT = -4, FULL = -5;
-    private static final int C = 0, S = 1;
-    private static final int IDLE = 0, ASKED = 1, RETRIED = 2, GREETED = 3, JOINED = 4, FAILED = 5;
-    private static final int MIN = Integer.MIN_VALUE, MAX = Integer.MAX_VALUE;
-
-    private static String test = "";
-    private static int wrong = 0;
-    private static int checks = 0;
-
-    private static void due(String what, int got, int want) {
-        checks++;
-        if (got != want) {
-            wrong++;
-            System.out.println("PromiseTest, " + test + ": " + what + " answered " + got + ", due is " + want);
-        }
-    }
-
+final class PromiseTest extends Play {
     public static void main(String[] args) {
         aNewObject();
         type();
@@ -62,27 +45,10 @@ final class PromiseTest {
         share();
         count();
         lost();
-        System.out.println("PromiseTest: " + checks + " answers, " + wrong + " not as due");
-        if (wrong != 0) {
-            System.exit(1);
-        }
+        end("PromiseTest");
     }
 
     // ---- helpers
-
-    private static void name(String named) {
-        test = named;
-    }
-
-    private static int mix(int h, int... xs) {
-        return Model.mix(h, xs);
-    }
-
-    private static void write(ToyGreeting x, String text) {
-        for (int i = 0; i < text.length(); i++) {
-            x.type(text.charAt(i));
-        }
-    }
 
     private static void faultOf(String text, int want) {
         ToyGreeting x = new ToyGreeting();
@@ -93,61 +59,6 @@ final class PromiseTest {
         if (want != NONE) {
             due("settings() of '" + text + "'", x.settings(), NOT);
             due("the letters of '" + text + "' then", x.count(11), text.length());
-        }
-    }
-
-    /** Both joined with the group 3, the version 3. */
-    private static ToyGreeting joined() {
-        ToyGreeting x = new ToyGreeting();
-        x.guess(3);
-        greet(x);
-        return x;
-    }
-
-    private static void greet(ToyGreeting x) {
-        x.fresh(C);
-        x.fresh(S);
-        x.hello();
-        x.step(S);
-        x.step(C);
-        x.step(S);
-        due("the client is joined", x.side(C, 0), JOINED);
-        due("the server is joined", x.side(S, 0), JOINED);
-    }
-
-    /** Both joined, and the client holds ticket 1. */
-    private static ToyGreeting withTicket(int life) {
-        ToyGreeting x = joined();
-        due("ticket()", x.ticket(life), 1);
-        x.step(C);
-        return x;
-    }
-
-    private static void again(ToyGreeting x) {
-        x.fresh(C);
-        x.fresh(S);
-        due("hello()", x.hello(), 1);
-    }
-
-    private static int[] first(ToyGreeting x, int side) {
-        int[] m = new int[9];
-        for (int i = 0; i < 9; i++) {
-            m[i] = x.message(side, i);
-        }
-        return m;
-    }
-
-    private static void firstIs(ToyGreeting x, int side, int... want) {
-        for (int i = 0; i < 9; i++) {
-            due("message(" + side + ", " + i + ")", x.message(side, i), i < want.length ? want[i] : 0);
-        }
-    }
-
-    private static void failed(ToyGreeting x, int side, int reason) {
-        due("the state of " + side, x.side(side, 0), FAILED);
-        due("the reason of " + side, x.side(side, 1), reason);
-        for (int what = 3; what < 12; what++) {
-            due("side(" + side + ", " + what + ")", x.side(side, what), NONE);
         }
     }
 
@@ -757,16 +668,6 @@ final class PromiseTest {
         x.step(S);
         due("share " + share + " in group " + group, x.side(S, 0), state);
         due("reason", x.side(S, 1), state == FAILED ? 5 : 0);
-    }
-
-    /** A greeting on the way to a client of the given versions. */
-    private static ToyGreeting greeting(int versions) {
-        ToyGreeting x = new ToyGreeting();
-        x.guess(3);
-        x.offer(C, versions, 15);
-        x.hello();
-        x.step(S);
-        return x;
     }
 
     private static void clientFails(int i, int v, int reason) {
