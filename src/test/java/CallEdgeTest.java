@@ -1,3 +1,5 @@
+import java.util.Arrays;
+
 /** Each promise's own bounds: the last number that is taken on both sides, nothing there, and as much as can be. */
 final class CallEdgeTest extends Play {
     public static void main(String[] args) {
@@ -15,6 +17,7 @@ final class CallEdgeTest extends Play {
         ticketTakes();
         ticketGivesWay();
         ticketNot();
+        ticketOfItsOwnVersion();
         forgetAnswers();
         sayTakes();
         sayNot();
@@ -28,6 +31,7 @@ final class CallEdgeTest extends Play {
         injectTakes();
         injectFull();
         sideOfNotJoined();
+        sideOfJoined();
         messageAnswers();
         keptAnswers();
         heldAnswers();
@@ -323,6 +327,23 @@ final class CallEdgeTest extends Play {
         }
     }
 
+    private static void ticketOfItsOwnVersion() {
+        name("promise 12: ticket: NOT: VERSION that the SERVER agreed on is not 3, whatever the client's is");
+        ToyGreeting x = joined();
+        x.fresh(C);
+        x.offer(C, 3, 15);
+        x.hello();
+        x.copy(S, 0);
+        x.drop(S);
+        int[] g = {GREETING, 2, 3, x.share(3, 4), 1, 0, 0, 0};
+        int key = mix(7, Model.common(3, g[3], 3), 0);
+        g[7] = mix(key, mix(x.side(C, 2), Arrays.copyOf(g, 7)), 1);
+        comes(x, C, 0, g);
+        due("client's version", x.side(C, 3), 2);
+        due("server's version", x.side(S, 3), 3);
+        due("ticket", x.ticket(5), 1);
+    }
+
     private static void forgetAnswers() {
         name("promise 13: forget: its number; NOT: it has none");
         ToyGreeting x = joined();
@@ -402,6 +423,10 @@ final class CallEdgeTest extends Play {
                 x.step(1 - side);
                 due("the other side's epoch then", x.side(1 - side, 9 - side), i);
             }
+            x.say(side, 5);
+            due("a letter counts, and is no epoch", x.update(side), 13);
+            due("count", x.side(side, 11 - side), 14);
+            clear(x, 1 - side);
             x.fresh(side);
             due("idle", x.update(side), NOT);
             due("on the way", x.count(2 - side), 0);
@@ -654,6 +679,45 @@ final class CallEdgeTest extends Play {
                 due("-1", x.side(side, -1), OUTSIDE);
                 due("12", x.side(side, 12), OUTSIDE);
             }
+        }
+    }
+
+    private static void sideOfJoined() {
+        name("promise 22: side: VERSION, GROUP, RESUMED, KEY, MAIN, EPOCH and COUNT of ways 0, 1, each by itself");
+        for (int version = 1; version <= 3; version++) {
+            for (int group = 0; group < 4; group++) {
+                ToyGreeting x = new ToyGreeting();
+                x.guess(group);
+                x.offer(C, (1 << version) - 1, 15);
+                x.offer(S, (1 << version) - 1, 1 << group);
+                greet(x);
+                x.update(C);
+                for (int i = 0; i < 2; i++) {
+                    x.say(C, i);
+                    x.update(S);
+                    x.update(S);
+                    x.say(S, i);
+                }
+                int key = mix(7, Model.common(group, x.share(group, 3), 4), 0);
+                int[][] lanes = {{0, 1, 0, 3}, {4, 0, 6, 0}};
+                for (int side = 0; side < 2; side++) {
+                    due("version", x.side(side, 3), version);
+                    due("group", x.side(side, 4), group);
+                    due("resumed", x.side(side, 5), 0);
+                    due("key", x.side(side, 6), key);
+                    due("main", x.side(side, 7), mix(key, x.side(side, 2)));
+                    for (int i = 0; i < 4; i++) {
+                        due("side(" + side + ", " + (8 + i) + ")", x.side(side, 8 + i), lanes[side][i]);
+                    }
+                }
+            }
+        }
+        ToyGreeting x = withTicket(9);
+        int value = x.held(3);
+        greet(x);
+        for (int side = 0; side < 2; side++) {
+            due("resumed", x.side(side, 5), 1);
+            due("key", x.side(side, 6), mix(7, Model.common(3, 28, 4), value));
         }
     }
 

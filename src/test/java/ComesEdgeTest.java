@@ -1,3 +1,4 @@
+import java.math.BigInteger;
 import java.util.Arrays;
 
 /** What comes to a side in which state: each reason's bound, the order of the reasons, and that nothing else is done. */
@@ -34,6 +35,8 @@ final class ComesEdgeTest extends Play {
         earlyWhenIdle();
         earlyAge();
         earlySeen();
+        earlySeenOfTwoTickets();
+        earlySeenNumbersGoToo();
         greetingOfTheServer();
         finishProof();
         lettersTag();
@@ -905,6 +908,91 @@ final class ComesEdgeTest extends Play {
         y.inject(S, 0);
         y.step(S);
         due("it was not seen yet", y.message(C, 6), 1);
+    }
+
+    /** Another ticket's hello is made that has the same binder: one without the other is not SEEN. */
+    private static void earlySeenOfTwoTickets() {
+        name("EARLY is taken: the TICKET's number with this BINDER, not this BINDER alone");
+        ToyGreeting x = withTicket(99);
+        x.ticket(99);
+        x.drop(C);
+        x.early(7);
+        again(x);
+        x.copy(S, 0);
+        int binder = x.message(S, 7);
+        int[] m = helloOfBinder(binder, x.kept(1, 3), 28, 2, mix(2, 77));
+        x.step(S);
+        due("taken of the first ticket", x.message(C, 6), 1);
+        x.drop(C);
+        for (int i = 0; i < 2; i++) {
+            x.fresh(S);
+            comes(x, S, 0, m);
+            due("resumed with the second ticket", x.message(C, 5), 1);
+            due("taken of the second ticket", x.message(C, 6), 1 - i);
+            due("early letters", x.count(5), 2);
+            due("seen", x.count(4), 2);
+            x.drop(C);
+        }
+        x.fresh(S);
+        x.inject(S, 0);
+        x.step(S);
+        due("the first is seen still", x.message(C, 6), 0);
+    }
+
+    /** A hello to an idle server in the group 3, of which versions and groups are drawn so that it has this binder. */
+    private static int[] helloOfBinder(int binder, int value, int share, int number, int age) {
+        int behindGroups = binder;
+        for (int known : new int[] {age, number, share, 3}) {
+            behindGroups = unmix(behindGroups) ^ known;
+        }
+        for (int versions = 4; versions < 4000; versions += 8) {
+            int groups = unmix(behindGroups) ^ mix(value, 1, HELLO, versions);
+            int[] m = {HELLO, versions, groups, 3, share, number, age, binder, 7};
+            if ((groups & 8) != 0) {
+                due("the binder", Model.binder(value, 1, m), binder);
+                return m;
+            }
+        }
+        due("a hello of this binder", 0, 1);
+        return new int[] {HELLO};
+    }
+
+    /** What h XOR x was of a MIX of both. */
+    private static int unmix(int mixed) {
+        int y = mixed ^ mixed >>> 15 ^ mixed >>> 30;
+        return y * BigInteger.valueOf(16777619).modInverse(BigInteger.ONE.shiftLeft(32)).intValue();
+    }
+
+    private static void earlySeenNumbersGoToo() {
+        name("SEEN: if there are 4, the oldest goes first, its number with its BINDER");
+        ToyGreeting x = withTicket(99);
+        x.early(10);
+        for (int i = 0; i < 8; i++) {
+            if (i == 4) {
+                x.step(C);
+                x.step(S);
+                x.ticket(99);
+                x.step(C);
+                due("the second ticket", x.held(0), 2);
+            }
+            x.secret(C, 100 + i);
+            again(x);
+            x.copy(S, i % 4);
+            x.step(S);
+            due("taken", x.message(C, 6), 1);
+            due("early letters", x.count(5), i + 1);
+            if (i != 3) {
+                x.drop(C);
+            }
+        }
+        for (int i = 0; i < 4; i++) {
+            x.fresh(S);
+            x.inject(S, i);
+            x.step(S);
+            due("resumed", x.message(C, 5), 1);
+            due("seen of ticket 2", x.message(C, 6), 0);
+            x.drop(C);
+        }
     }
 
     // ---- the server's greeting, finish
