@@ -351,7 +351,8 @@ final class ComesEdgeTest extends Play {
     /** Each pair of the reasons, as each is made by itself. */
     private static void greetingOrder() {
         name("GREETING: the first of these that fits: 2, 4, 7, 5, 6, then 8");
-        int[][] faults = {{2, 1, 9, 1, 9}, {4, 2, 9, 2, 9}, {7, 1, 2, 4, 1}, {5, 3, 0, 3, 0}, {6, 5, 1, 5, 1}, {8, 7, 0, 7, 0}};
+        int[][] faults = { // reason, and the numbers that somebody alters for it, twice the same if it needs but one
+            {2, 1, 9, 1, 9}, {4, 2, 9, 2, 9}, {7, 1, 2, 4, 1}, {5, 3, 0, 3, 0}, {6, 5, 1, 5, 1}, {8, 7, 0, 7, 0}};
         for (int i = 0; i < faults.length; i++) {
             for (int j = i; j < faults.length; j++) {
                 ToyGreeting x = greeting(7);
